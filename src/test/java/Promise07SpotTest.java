@@ -39,8 +39,8 @@ final class Promise07SpotTest {
     }
 
     private void checkPoints() {
-        Bench bench = new Bench();
         for (int k = 1; k < 40; k++) {
+            Bench bench = new Bench();
             Model.Pair point = Model.times(BigInteger.valueOf(k), Model.BASE);
             check.due(k + " times the base", bench.writePoint(1, point), 1);
             check.due("spot 1", bench.readPoint(1), point);
@@ -49,6 +49,7 @@ final class Promise07SpotTest {
         }
         BigInteger[] xs = {BigInteger.ONE, Model.N, Model.P.subtract(BigInteger.valueOf(3))};
         for (BigInteger x : xs) {
+            Bench bench = new Bench();
             check.due("the point at " + x, bench.writePoint(2, Model.lift(x, true)), 1);
             check.due("spot 2", bench.readPoint(2), Model.lift(x, true));
         }
