@@ -16,6 +16,7 @@ final class Edges05WorkTest {
             test.sumsWrapAround(m, last);
             test.differencesWrapAround(m, last);
             test.productsWrapAround(m, last);
+            test.productsJustAbove2To256(m);
             test.quotients(m, last);
             test.sameRegisters(m);
             test.refusedIfSOrTIsNotBelowM(m);
@@ -64,6 +65,23 @@ final class Edges05WorkTest {
         makes(2, m, ONE.shiftLeft(128), ONE.shiftLeft(128), gap);
         makes(2, m, ONE.shiftLeft(255), TWO, gap);
         makes(2, m, last.add(TWO).shiftRight(1), TWO, ONE);
+    }
+
+    /**
+     * High factors whose product leaves little. 2 ^ 256 leaves the gap, so what is left of these crosses
+     * 2 ^ 256 once more, when it seems to be low enough; whether it does depends on the factors.
+     */
+    private void productsJustAbove2To256(int m) {
+        BigInteger gap = Bench.TWO_256.subtract(MODULI[m]);
+        BigInteger[] left = {ONE, gap.subtract(ONE), gap, gap.add(ONE), gap.add(gap.shiftRight(1)),
+            gap.shiftLeft(1).subtract(ONE), gap.shiftLeft(1), gap.multiply(BigInteger.valueOf(3)), gap.shiftLeft(16)};
+        BigInteger factor = Model.BASE.y();
+        for (int i = 0; i < 30; i++) {
+            factor = factor.multiply(factor).mod(MODULI[m]);
+            for (BigInteger due : left) {
+                makes(2, m, due.multiply(factor.modInverse(MODULI[m])).mod(MODULI[m]), factor, due);
+            }
+        }
     }
 
     private void quotients(int m, BigInteger last) {

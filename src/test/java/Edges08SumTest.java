@@ -12,6 +12,7 @@ final class Edges08SumTest {
         test.firstAndLastSpot();
         test.sameSpots();
         test.sumsThatAreNone();
+        test.oneSumAfterAnother();
         test.falseForNoSuchSpot();
         test.check.end();
     }
@@ -47,6 +48,21 @@ final class Edges08SumTest {
                 .spotBecomes(0, null).andNothingElse();
         new Scene(check, "Spot q becomes the sum, NONE").answers(true, desk -> desk.sum(0, 1, 1))
                 .spotBecomes(0, null).andNothingElse();
+    }
+
+    /** What was reckoned before, a point or NONE, is no part of the next sum. */
+    private void oneSumAfterAnother() {
+        new Scene(check, "Spot q becomes the sum of spots a and b, one after another").number(5, 10)
+                .answers(true, desk -> desk.sum(1, 0, 2))
+                .answers(true, desk -> desk.sum(1, 0, 0))
+                .answers(true, desk -> desk.times(1, 2, 5))
+                .answers(0, desk -> desk.fits(0, 0, 1, 2))
+                .answers(true, desk -> desk.sum(1, 0, 0))
+                .answers(true, desk -> desk.sum(2, 0, 3))
+                .answers(true, desk -> desk.sum(2, 2, 2))
+                .answers(true, desk -> desk.sum(3, 0, 1))
+                .spotBecomes(1, Scene.TWO_BASES).spotBecomes(2, null)
+                .spotBecomes(3, Model.add(Model.BASE, Scene.TWO_BASES)).andNothingElse();
     }
 
     private void falseForNoSuchSpot() {

@@ -64,7 +64,8 @@ final class Promise08SumTest {
     /** q may be a, b or both. */
     private void checkSameSpots() {
         Model.Pair seven = Model.times(BigInteger.valueOf(7), Model.BASE);
-        int[][] calls = {{0, 0, 1}, {1, 0, 1}, {0, 0, 0}, {1, 1, 1}, {2, 2, 2}, {0, 2, 0}, {2, 2, 0}, {2, 0, 2}, {3, 1, 1}};
+        int[][] calls = {{0, 0, 1}, {1, 0, 1}, {0, 0, 0}, {1, 1, 1}, {2, 2, 2}, {0, 2, 0}, {2, 2, 0},
+            {2, 0, 2}, {3, 1, 1}};
         for (int[] call : calls) {
             Model.Pair[] before = {Model.BASE, seven, null, null};
             Bench bench = new Bench();
